@@ -23,8 +23,8 @@ public final class RightTerms {
     // The numbers of a work, in the order of the tape.
     private static final int KIND = 0, ORIGIN = 1, MADE = 2, PUBLISHED = 3, AUTHORS = 4, WORK_NUMBERS = 5;
 
-    private static final int NO_KIND = -1, BOOK = 1, SONG = 2, PICTURE = 3, FILM = 4, NAMELESS = 5, KINDS = 6;
-    private static final int[] KIND_ABOVE = {NO_KIND, 0, BOOK, 0, 0, 0};
+    private static final int NO_KIND = -1, WORK = 0, BOOK = 1, SONG = 2, PICTURE = 3, FILM = 4, NAMELESS = 5, KINDS = 6;
+    private static final int[] KIND_ABOVE = {NO_KIND, WORK, BOOK, WORK, WORK, WORK};
 
     private final Reader reader = new Reader();
     private final Deeds deeds = new Deeds();
@@ -178,7 +178,7 @@ public final class RightTerms {
     }
 
     public int as(int work, int kind) {
-        if (!now.hasWork(work) || kind < 0 || kind >= KINDS) {
+        if (!now.hasWork(work) || kind < WORK || kind >= KINDS) {
             return BAD;
         }
         return isOfKind(now.ofWork(work, KIND), kind) ? work : NONE;

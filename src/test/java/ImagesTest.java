@@ -77,6 +77,10 @@ final class ImagesTest {
         for (int what = 0; what < 6; what++) {
             due.is("count(" + what + ")", x.count(what), want[what]);
         }
+        x.rights();
+        Due.feed(x, "ly1900,0,0,0,0,0;");
+        x.rights();
+        due.is("count(1) of fewer lands", x.count(1), 1);
         due.is("count(-1)", x.count(-1), Due.BAD);
         due.is("count(6)", x.count(6), Due.BAD);
     }

@@ -152,6 +152,9 @@ final class TermsTest {
         due.is("ahead of all, the first act at home", y.free(0, 1, 4), 1960);
         due.is("comes back by home's law", y.free(0, 1, 2), 1);
         due.is("FREE then", y.free(0, 1, 0), 1971);
+        due.is("home's first act is an EVENT too", y.free(0, 1, 3), 2);
+        x.repeal(1);
+        due.is("what compared is repealed", x.free(0, 1, 3), 0);
     }
 
     private static void inDoubtInAYear() {
@@ -164,6 +167,10 @@ final class TermsTest {
         }
         due.is("a picture in its year", x.isProtected(1, 0, 1950), 1);
         due.is("a picture then", x.isProtected(1, 0, 1951), 0);
+        x.alter(0, 0, 3, 99);
+        x.alter(0, 1, 3, 99);
+        due.is("the book in 1955", x.isProtected(0, 0, 1955), 0);
+        due.is("the picture in 1955, behind the book", x.isProtected(1, 0, 1955), 1);
         due.is("in 1499", x.isProtected(0, 0, 1499), Due.BAD);
         due.is("in 2300", x.isProtected(0, 0, 2300), Due.BAD);
         due.is("no work", x.isProtected(2, 0, 1900), Due.BAD);
@@ -205,6 +212,9 @@ final class TermsTest {
         RightTerms y = twoActs(59, 70, 4);
         row(y, 0, 1890, 1970);
         row(y, 1, Due.NONE, Due.NONE);
+        y.alter(0, 0, 1, 58);
+        row(y, 0, 1890, 1958);
+        row(y, 1, 1960, 1970);
         y.die(0, 0, 0);
         row(y, 0, 1890, Due.NEVER);
         RightTerms z = Due.read("ly1900,30,0,0,0,0;y1960,70,0,0,0,4;y1980,99,0,0,0,4;a1900,1900;b0,1890,0,1;");
@@ -263,6 +273,10 @@ final class TermsTest {
         for (int i = 0; i < 6; i++) {
             due.is("all in 1952, number " + i, x.next(1952, i, 1), then[i]);
         }
+        Due.feed(x, "ly1900,70,0,10,0,0;p0,1890,0,0;");
+        x.rights();
+        due.is("fewer works: the one there is", x.next(1500, 0, 1), 0);
+        due.is("fewer works: no more", x.next(1500, 1, 1), Due.NONE);
         due.is("next without RIGHTS, ahead of BAD", new RightTerms().next(0, -1, 9), Due.STATE);
         due.is("next without works", Due.read("ly1700,0,0,0,0,0;").next(1500, 0, 0), Due.NONE);
     }

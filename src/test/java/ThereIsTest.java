@@ -66,6 +66,13 @@ final class ThereIsTest {
         due.is("JOINT: of the book 1 counts", x.author(1, 3), 4);
         due.is("JOINT: 0 decides the film", x.author(0, 3), 1);
         due.is("nothing became another", x.work(0, 4), 3);
+        x.die(1, 1890, 1890);
+        due.is("1 decides the film, and EARLIEST of the song with 3", x.author(1, 3), 2);
+        due.is("3 decides LATEST of that song now", x.author(3, 3), 2);
+        Due.feed(x, "ly1900,0,0,0,0,0;a;b0,1900,0,1;");
+        x.rights();
+        due.is("fewer works: author(0, 2)", x.author(0, 2), 1);
+        due.is("fewer works: author(0, 3)", x.author(0, 3), 1);
 
         // LATEST alone is another one, and only in land 1, which is JOINT.
         RightTerms y = Due.read("ly1900,50,0,0,0,0;ly1900,50,0,0,0,1;a1900,1900;a1890,1920;b0,1870,0,3;");
