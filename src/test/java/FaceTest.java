@@ -28,6 +28,7 @@ final class FaceTest {
         theConstants();
         insideClasses();
         theText();
+        shortMethods();
         System.out.println(wrong == 0 ? "the face is as told" : wrong + " things are not as told");
         if (wrong != 0) {
             System.exit(1);
@@ -119,6 +120,20 @@ final class FaceTest {
             tell(List.of("System.arraycopy", "Math.max", "Math.min").contains(library.group()),
                     "not used so far: " + library.group());
         }
+    }
+
+    private static void shortMethods() throws Exception {
+        List<String> lines = Files.readAllLines(Path.of("src/main/java/RightTerms.java"));
+        int methods = 0;
+        for (int i = 0; i < lines.size(); i++) {
+            Matcher head = Pattern.compile("( {4}| {8})(?! )[^=;]*\\).*\\{").matcher(lines.get(i));
+            if (head.matches()) {
+                int end = lines.subList(i, lines.size()).indexOf(head.group(1) + "}");
+                methods++;
+                tell(end > 0 && end <= 60, "a method of " + end + " lines: " + lines.get(i));
+            }
+        }
+        tell(methods > 50, "only " + methods + " methods were found");
     }
 
     private FaceTest() {

@@ -9,7 +9,8 @@ final class Promise05UndoTest {
         nothingBecomesAnother();
         twelve();
         wrapsAround();
-        thereIsOne();
+        toTheLastCall();
+        allSorts();
         whatIsNoDeed();
         whatForgetsThem();
         due.finish();
@@ -121,7 +122,17 @@ final class Promise05UndoTest {
         due.is(x, 4, "act", 0, 0, 1);
     }
 
-    private static void thereIsOne() {
+    private static void toTheLastCall() {
+        due.sentence("An object is used for at most 512 calls after it has been made");
+        // 48 calls to read the text, 463 deeds: the 512th call undoes the latest one.
+        Subject x = Subject.read(SMALL);
+        for (int i = 1; i <= 463; i++) {
+            due.is(x, i == 1 ? 50 : (i - 1) % 100, "alter", 0, 0, 1, i % 100);
+        }
+        due.is(x, 11, "undo");
+    }
+
+    private static void allSorts() {
         due.sentence("each can be undone, the latest first: DEEDS of all sorts");
         Subject x = Subject.read(SMALL);
         String before = x.rights();

@@ -26,9 +26,13 @@ final class Promise17FreeTest {
         due.row(x, 0, want, "free", 0, land);
     }
 
+    /** Asked one behind the other, and each of an object that was asked nothing else. */
     private static void free(String text, int land, int... want) {
         due.on(text);
         free(Subject.read(text), land, want);
+        for (int what = 0; what < want.length; what++) {
+            due.is(Subject.read(text), want[what], "free", 0, land, what);
+        }
     }
 
     /** The book's author died in 1900, the second act is of 1960; the first one has all FLAGS, for the second alone counts. */
@@ -250,6 +254,11 @@ final class Promise17FreeTest {
         due.sentence("the greatest FREE: of a k that is neither 0 nor K");
         // To 1950 .. 1959 for k = 0 .. 9, to 1965 for k = 10 .. 14 (published late), to 1959 for k = 15 .. 20.
         free("ly1900,50,0,0,0,0;y1960,0,0,0,50,0;a1900,1920;b0,1890,1915,1;", 0, 1951, 1966);
+        due.sentence("k being 0 to K: each k, where whose death is the latest changes from k to k");
+        free("ly1900,50,0,0,0,0;a1900,1901;a1901,1901;b0,1890,0,3;", 0, 1951, 1952);
+        free("ly1900,50,0,0,0,1;a1900,1901;a1901,1901;b0,1890,0,3;", 0, 1952, 1952);
+        free("ly1900,50,0,0,0,0;a1900,1902;a1901,1901;b0,1890,0,3;", 0, 1951, 1953);
+        free("ly1900,50,0,0,0,1;a1901,1901;a1900,1902;b0,1890,0,3;", 0, 1952, 1953);
         due.sentence("of a PICTURE, a NAMELESS WORK: no k makes another one");
         free("ly1900,50,40,30,20,0;a1900,1950;p0,1890,0,1;", 0, 1921, 1921);
         free("ly1900,50,40,30,20,0;a1900,1950;n0,1890,0,1;", 0, 1931, 1931);
