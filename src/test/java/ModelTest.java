@@ -35,7 +35,8 @@ final class ModelTest {
     private void run() {
         while (calls < MAX_CALLS && !wrong) {
             if (calls == 0 || random.nextInt(200) == 0) {
-                tell(random.nextInt(5) == 0 ? spoilt(text()) : text());
+                String text = random.nextInt(3) == 0 ? denseText() : text();
+                tell(random.nextInt(5) == 0 ? spoilt(text) : text);
             } else {
                 ask(NAMES[random.nextInt(NAMES.length)]);
             }
@@ -121,6 +122,31 @@ final class ModelTest {
             s.append(from(0, lands - 1)).append(',').append(made).append(',');
             s.append(random.nextBoolean() ? 0 : Math.min(2099, made + from(0, 90))).append(',');
             s.append(authors == 0 ? 0 : from(1, (1 << authors) - 1)).append(';');
+        }
+        return s.toString();
+    }
+
+    /** Two lands of four acts, short terms: works become free and come back, often in one land by the other's acts. */
+    private String denseText() {
+        StringBuilder s = new StringBuilder();
+        for (int land = 0; land < 2; land++) {
+            int year = from(1890, 1910);
+            s.append('l');
+            for (int act = 0; act < 4; act++) {
+                s.append('y').append(year).append(',').append(from(0, 60)).append(',').append(from(0, 60)).append(',')
+                        .append(from(0, 60)).append(',').append(from(0, 20)).append(',')
+                        .append(from(0, 15) | (random.nextInt(3) > 0 ? 12 : 0)).append(';');
+                year += from(1, 25);
+            }
+        }
+        for (int author = 0; author < 3; author++) {
+            int year = from(1870, 1930);
+            s.append('a').append(year).append(',').append(year + from(0, 40)).append(';');
+        }
+        for (int work = 0; work < 2; work++) {
+            int made = from(1860, 1930);
+            s.append("bspfn".charAt(random.nextInt(5))).append(from(0, 1)).append(',').append(made).append(',');
+            s.append(random.nextBoolean() ? 0 : made + from(0, 40)).append(',').append(from(1, 7)).append(';');
         }
         return s.toString();
     }
